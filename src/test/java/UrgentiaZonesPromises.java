@@ -42,6 +42,7 @@ public final class UrgentiaZonesPromises {
         conditions();
         beginningAnew();
         states();
+        greatestZero();
         givingUp();
         reaching();
         regions();
@@ -777,11 +778,46 @@ public final class UrgentiaZonesPromises {
         }
         long want = sum;
         due(want, y::checksum);
+        soundness();
+    }
+
+    /** What both searches found earlier must not be told again behind a change. */
+    private static void soundness() {
         begin(30);
-        due(true, y::isSound);
-        y.pass(5);
-        y.take(0);
-        due(true, y::isSound);
+        UrgentiaZones x = two();
+        due(true, x::isSound);
+        x.pass(5);
+        x.take(0);
+        due(true, x::isSound);
+        x.addCondition(0, 0, '<', 0);
+        due(true, x::isSound);
+        begin(12);
+        due(false, () -> x.reaches(1));
+        begin(13);
+        due(false, () -> x.reachesAnew(1));
+        begin(30);
+        x.addEdge(0, 1, 0);
+        due(true, x::isSound);
+        begin(8);
+        due(2, x::states);
+    }
+
+    /** A greatest value of 0 is one, and not none. */
+    private static void greatestZero() {
+        UrgentiaZones x = two();
+        x.setGreatest(0, 0, 0);
+        x.setGreatest(1, 1, 0);
+        begin(10);
+        checkBounds(x, 0, 1, 1, 1, 1, 1, 1, 1, 1, 1);
+        checkBounds(x, 1, 1, 1, 1, 1, 1, 1, 1, 1, 1);
+        begin(15);
+        due(2, x::regions);
+        begin(19);
+        due(UNSUPPORTED, () -> x.pass(1));
+        begin(22);
+        due(0, () -> x.leastWait(0));
+        x.addCondition(0, 1, '>', 0);
+        due(NO_ELEMENT, () -> x.leastWait(0));
     }
 
     private static void throwingChangesNothing() {
